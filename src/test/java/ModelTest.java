@@ -228,6 +228,7 @@ public final class ModelTest {
             case 19: a[0] = dice.nextInt(4); a[1] = anyHour(); break;
             case 20: a[0] = dice.nextInt(Math.max(1, model.packs)); break;
             case 22: a[0] = dice.nextInt(3) == 0 ? 1 + dice.nextInt(120) : 1 + dice.nextInt(4); break;
+            case 33: a[0] = dice.nextInt(model.versions.size() + 2) - 1; break;
             case 23: a[0] = dice.nextInt(5) == 0 ? 1 + dice.nextInt(100) : 1 + dice.nextInt(12); break;
             default: break;
         }
@@ -251,7 +252,7 @@ public final class ModelTest {
         if (throwOf < 66) {
             return 23;
         }
-        return dice.nextInt(24);
+        return throwOf < 96 ? dice.nextInt(24) : 24 + dice.nextInt(15);
     }
 
     private boolean run(long seed) {

@@ -625,6 +625,12 @@ public final class PromisesTest {
         x.scan(1);
         Due.is("now it is free", x.upload(1, 100), 1);
         Due.is("it", x.version(15, 0), 14);
+        KeeperHouse y = new KeeperHouse();
+        write(y, 0, 0, "1");
+        y.lock(0, 8, 9);
+        write(y, 1, 8, "1");
+        y.upload(1, 9);
+        Due.is("0 is the first machine's", y.version(0, 0), 1);
         x.erase(1, 14);
         x.upload(1, 0);
         write(x, 1, 0, "5");
@@ -1058,6 +1064,25 @@ public final class PromisesTest {
         Due.is("known only has none", y.count(0), 2);
     }
 
+    private static void promise19First() {
+        KeeperHouse x = new KeeperHouse();
+        put(x, 0, 0, "5");
+        put(x, 0, 1, "1111");
+        x.follow(2);
+        x.pass(24);
+        Due.is("the only ones of a span stay", x.thin(), 0);
+        x.erase(0, 1);
+        x.upload(0, 0);
+        passAll(x, 216);
+        Due.is("up to their age, and the latest one for good", x.thin(), 1);
+        Due.is("that of file 1", x.version(1, 5), 0);
+        put(x, 0, 2, "1111");
+        Due.is("a piece that comes again", x.count(0), 2);
+        Due.is("is not had in the second house", x.count(3), 1);
+        x.follow(9);
+        Due.is("until it comes with its version", x.count(3), 2);
+    }
+
     private static void promise20() {
         KeeperHouse x = new KeeperHouse();
         for (int file : NO_FILES) {
@@ -1133,6 +1158,9 @@ public final class PromisesTest {
         Due.is("a deletion as of then, there now", x.restoreFolder(0, 2), 1);
         Due.is("it", x.version(x.versions() - 1, 3), NONE);
         Due.is("another folder", x.restoreFolder(3, 0), 0);
+        put(x, 0, 0, "88");
+        Due.is("file 0 and 12, but not to what they were before", x.restoreFolder(0, 1), 2);
+        Due.is("file 0", x.version(x.versions() - 2, 0), 0);
     }
 
     private static void promise22and23and24() {
@@ -1399,6 +1427,7 @@ public final class PromisesTest {
         promise19Pieces();
         promise19Packs();
         promise19Noted();
+        promise19First();
         promise20();
         promise21();
         promise22and23and24();
