@@ -6,8 +6,23 @@ final class Due {
 
     private static int looked = 0;
     private static int wrong = 0;
+    private static int sentences = 0;
+    private static String sentence = "";
 
     private Due() {
+    }
+
+    /** The answers that are looked at from here on are those that these words of the document name. */
+    static void sentence(String words) {
+        sentences++;
+        sentence = words + ": ";
+    }
+
+    static void is(String what, String got, String due) {
+        looked++;
+        if (!got.equals(due)) {
+            fail(what + " answered \"" + got + "\", due is \"" + due + "\"");
+        }
     }
 
     static void is(String what, long got, long due) {
@@ -50,12 +65,13 @@ final class Due {
     static void fail(String what) {
         wrong++;
         if (wrong <= 40) {
-            System.out.println(what);
+            System.out.println(sentence + what);
         }
     }
 
     static void end(String test) {
-        System.out.println(test + ": " + looked + " answers looked at, " + wrong + " not as due");
+        String told = sentences == 0 ? "" : sentences + " sentences, ";
+        System.out.println(test + ": " + told + looked + " answers looked at, " + wrong + " not as due");
         if (wrong > 0 || looked == 0) {
             System.exit(1);
         }
