@@ -167,6 +167,18 @@ public final class DamageEdgesTest {
         z.put(0, 1, "10");
         z.damage(0);
         Due.is("so that it mends none", z.scrub(), 0);
+        House w = new House();
+        w.put(0, 0, "1020");
+        w.put(0, 0, "10");
+        w.follow(9);
+        w.pass(24);
+        w.thin();
+        w.put(0, 1, "20");
+        Due.is("a piece that comes again", w.count(PIECES), 2);
+        Due.is("is not there till its version comes", w.count(SECOND), 1);
+        w.put(0, 2, "30");
+        w.damage(0);
+        Due.is("nor are others in its place", w.scrub(), 1);
     }
 
     private static void scrubs() {

@@ -229,6 +229,14 @@ public final class MachinesEdgesTest {
         Due.is("notes it, too", x.noted(0), 1);
         Due.is("though there is no version", x.upload(0, 9), 0);
         Due.is("then no more", x.noted(0), 0);
+        House w = new House();
+        w.late(0, 50);
+        w.write(0, 3, "1");
+        w.lose(0);
+        w.late(0, 0);
+        w.erase(0, 3);
+        Due.is("an erasing of what was never in the house, too", w.noted(0), 1);
+        Due.is("though there is no version", w.upload(0, 9), 0);
         Due.sentence("the file is noted to be uploaded, behind others, if it is not already");
         House y = new House();
         y.write(0, 9, "1");
@@ -329,6 +337,27 @@ public final class MachinesEdgesTest {
         z.pass(1);
         z.upload(0, 100);
         Due.is("of one hour the older one first", z.filesFrom(0), "1 0");
+        House v = new House();
+        for (int hours = 1; hours <= 4; hours++) {
+            v.late(0, hours);
+            v.write(0, 10 + hours, "1");
+            v.late(1, hours * 10);
+            v.write(1, hours, "2");
+        }
+        for (int hours = 1; hours <= 4; hours++) {
+            v.pass(1);
+            Due.is("one in each hour", v.noted(0), 1);
+            v.upload(0, 9);
+            Due.is("those that come later are on their way still", v.noted(1), 0);
+        }
+        Due.is("each once", v.filesFrom(0), "11 12 13 14");
+        v.pass(16);
+        Due.is("after 10 and 20 hours", v.noted(1), 2);
+        v.pass(19);
+        Due.is("not yet after 39", v.noted(1), 3);
+        v.pass(1);
+        Due.is("after 40", v.noted(1), 4);
+        Due.is("none is on its way", v.lose(0) + v.lose(1), 0);
         House w = new House();
         w.late(0, 5);
         w.write(0, 1, "1");
@@ -492,6 +521,12 @@ public final class MachinesEdgesTest {
         Due.is("all of it", v.taken(0), 192);
         Due.is("nothing is put away when it is acknowledged", v.upload(0, 100), 16);
         Due.is("all are there", v.states(0), "2222222222222222");
+        v.write(0, 3, "9");
+        Due.is("nor when it is written again", v.states(0), "2222222222222222");
+        House u = hundredTaken();
+        u.write(1, 9, "222222222222");
+        Due.is("nor are others, that could be", u.states(1), "2222222222000000");
+        Due.is("more is taken than there is room", u.taken(1), 112);
     }
 
     private static void known() {
@@ -571,6 +606,13 @@ public final class MachinesEdgesTest {
         x.erase(1, 3);
         Due.is("a pin stays with an erased file", x.pin(1, 3, true), 1);
         Due.is("it is no change", x.isChanged(1, 4), false);
+        x.write(1, 3, "1");
+        x.upload(1, 9);
+        Due.is("and with one that is written again", x.pin(1, 3, true), 1);
+        x.pull(0);
+        x.put(0, 3, "2");
+        Due.is("or pulled", x.pull(1), 1);
+        Due.is("it is pinned still", x.pin(1, 3, true), 1);
         x.share(0, 1, READ, 1);
         Due.is("and needs no right", x.pin(1, 4, true), 1);
     }

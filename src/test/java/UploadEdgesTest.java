@@ -248,6 +248,12 @@ public final class UploadEdgesTest {
         locked(2, 48, 47, false);
         locked(2, 48, 48, true);
         locked(1, 2, 2, true);
+        House y = new House();
+        y.lock(1, 4, 9);
+        y.put(1, 4, "11");
+        Due.is("acknowledging leaves the lock", y.lockOf(4), 1);
+        y.delete(1, 4);
+        Due.is("a deletion, too", y.lockOf(4), 1);
         House x = new House();
         x.lock(0, 4, 9);
         x.lock(0, 12, 9);
@@ -389,6 +395,15 @@ public final class UploadEdgesTest {
         Due.is("there", x.stateOf(1, 4), THERE);
         Due.is("a conflict", x.count(CONFLICTS), 1);
         Due.is("though it has seen none", overDeletion(false, WRITE), 4);
+        House y = new House();
+        y.put(0, 5, "11");
+        y.fetch(1, 5);
+        y.delete(0, 5);
+        y.move(1, 5, 2);
+        y.share(1, 1, READ, 9);
+        Due.is("the folder in which it was asks for no right", y.upload(1, 0), 1);
+        Due.is("the same file", y.version(2, 0), 5);
+        Due.is("in the folder of the machine", y.version(2, 3), 2);
         Due.is("not with another one's lock", overDeletion(true, WRITE), 0);
         Due.is("not without the right", overDeletion(false, READ), NONE);
     }
@@ -441,6 +456,14 @@ public final class UploadEdgesTest {
         Due.is("in its folder", x.folderOf(1, 6), 2);
         Due.is("not changed", x.isChanged(1, 6), false);
         Due.is("nothing at others", x.stateOf(2, 0) + x.stateOf(0, 0), 0);
+        House w = new House();
+        w.put(0, 6, "11");
+        w.write(1, 6, "1111");
+        w.upload(1, 0);
+        w.put(2, 7, "1111");
+        w.write(1, 8, "22");
+        Due.is("with a next one that waits", w.upload(1, 0), 1);
+        Due.is("that alone is noted", w.noted(1), 1);
         Due.sentence("known only, also if its content is the same");
         House y = new House();
         y.put(0, 6, "11");
