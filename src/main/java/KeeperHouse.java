@@ -39,7 +39,7 @@ public final class KeeperHouse {
     private int followed = 0;
 
     public KeeperHouse() {
-        Content empty = new Content(drafted, 0);
+        Content empty = new Content(new int[0], 0);
         log = new Log(empty);
         for (int machine = 0; machine < MACHINES; machine++) {
             machines[machine] = new Machine(empty);

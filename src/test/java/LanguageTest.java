@@ -49,6 +49,8 @@ public final class LanguageTest {
     private static final class Look extends TreeScanner<Void, String> {
         private final CompilationUnitTree unit;
         private final SourcePositions positions;
+        private Set<String> ownFields = Set.of();
+        private Set<String> locals = Set.of();
 
         Look(CompilationUnitTree unit, SourcePositions positions) {
             this.unit = unit;
@@ -67,12 +69,17 @@ public final class LanguageTest {
         @Override
         public Void visitClass(ClassTree tree, String method) {
             classes++;
+            Set<String> outerFields = ownFields;
+            ownFields = new TreeSet<>();
             int fields = 0;
             for (Tree member : tree.getMembers()) {
                 if (member instanceof VariableTree) {
                     Set<Modifier> modifiers = ((VariableTree) member).getModifiers().getFlags();
                     boolean isStatic = modifiers.contains(Modifier.STATIC);
                     fields += isStatic ? 0 : 1;
+                    if (!isStatic) {
+                        ownFields.add(((VariableTree) member).getName().toString());
+                    }
                     if (isStatic && !modifiers.contains(Modifier.FINAL)) {
                         found("5: a static field that is not final", member);
                     }
@@ -81,12 +88,41 @@ public final class LanguageTest {
                 }
             }
             Due.is("rule 11: fields of " + tree.getSimpleName(), fields <= MOST_FIELDS, true);
-            return super.visitClass(tree, method);
+            super.visitClass(tree, method);
+            ownFields = outerFields;
+            return null;
+        }
+
+        @Override
+        public Void visitVariable(VariableTree tree, String method) {
+            if (method != null) {
+                locals.add(tree.getName().toString());
+            }
+            return super.visitVariable(tree, method);
+        }
+
+        /** A constructor's arguments for others, its own parameters and variables aside. */
+        private void lookForHandedOut(List<? extends ExpressionTree> arguments, String method) {
+            for (ExpressionTree argument : arguments) {
+                String handed = argument.toString();
+                boolean isOwn = handed.equals("this") || handed.startsWith("this.")
+                        || ownFields.contains(handed) && !locals.contains(handed);
+                if (isOwn && "<init>".equals(method)) {
+                    found("12: a constructor hands out " + handed, argument);
+                }
+            }
+        }
+
+        @Override
+        public Void visitNewClass(NewClassTree tree, String method) {
+            lookForHandedOut(tree.getArguments(), method);
+            return super.visitNewClass(tree, method);
         }
 
         @Override
         public Void visitMethod(MethodTree tree, String method) {
             String name = tree.getName().toString();
+            locals = new TreeSet<>();
             calls.computeIfAbsent(name, k -> new TreeSet<>());
             long lines = line(tree, true) - line(tree, false) + 1;
             Due.is("rule 11: lines of " + name, lines <= MOST_LINES, true);
@@ -96,6 +132,7 @@ public final class LanguageTest {
 
         @Override
         public Void visitMethodInvocation(MethodInvocationTree tree, String method) {
+            lookForHandedOut(tree.getArguments(), method);
             if (method != null) {
                 ExpressionTree called = tree.getMethodSelect();
                 String name = called instanceof MemberSelectTree
