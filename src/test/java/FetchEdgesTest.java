@@ -452,6 +452,15 @@ public final class FetchEdgesTest {
         v.room(1, 4);
         v.open(1, 1);
         Due.is("9 goes before 0, which was known only and written then", v.states(1), "2211110001000000");
+        House q = sixKnown(9);
+        q.open(1, 0);
+        q.delete(0, 0);
+        q.pull(1);
+        q.put(1, 0, "44");
+        q.put(1, 9, "22");
+        q.room(1, 4);
+        q.open(1, 1);
+        Due.is("9 goes before 0, which was gone by a pull and written then", q.states(1), "2211110001000000");
         Due.sentence("of those never opened: a file that came by a conflict");
         House u = sixKnown(9);
         u.open(1, 0);
@@ -462,6 +471,18 @@ public final class FetchEdgesTest {
         u.room(1, 4);
         u.open(1, 2);
         Due.is("is put away first", u.states(1), "2121111000000000");
+        House t = sixKnown(9);
+        t.open(1, 0);
+        t.open(1, 1);
+        t.pin(1, 1, true);
+        t.write(1, 1, "33");
+        t.put(0, 1, "44");
+        Due.is("of one that was opened, and pinned", t.upload(1, 9), 1);
+        t.room(1, 4);
+        t.open(1, 2);
+        Due.is("is put away first, too", t.states(1), "2121111000000000");
+        Due.is("it is not pinned by that", t.pin(1, 6, false), 0);
+        Due.is("the pin stays where it was", t.pin(1, 1, false), 1);
         Due.sentence("a call that is refused is no opening");
         House y = sixKnown(4);
         y.open(1, 0);
@@ -471,6 +492,24 @@ public final class FetchEdgesTest {
         y.room(1, 4);
         y.open(1, 2);
         Due.is("0 was opened longest ago", y.states(1), "1221110000000000");
+        House s = sixKnown(4);
+        s.open(1, 0);
+        s.room(1, 1);
+        Due.is("no room", s.open(1, 2), (int) Calls.NO_STATE);
+        s.room(1, 4);
+        s.write(1, 2, "12");
+        s.open(1, 1);
+        Due.is("2, there by a write of what it was, was never opened", s.states(1), "2211110000000000");
+        House r = sixKnown(4);
+        r.open(1, 2);
+        r.open(1, 0);
+        r.open(1, 1);
+        r.room(1, 1);
+        Due.is("no room", r.open(1, 2), (int) Calls.NO_STATE);
+        r.room(1, 6);
+        r.write(1, 2, "12");
+        r.open(1, 3);
+        Due.is("2 was opened before 0", r.states(1), "2212110000000000");
     }
 
     private static void locks() {
@@ -528,6 +567,14 @@ public final class FetchEdgesTest {
         w.passTo(2000);
         Due.is("up to beyond all time", w.lock(0, 0, 48), 2048);
         Due.is("taken", w.lockOf(0), 0);
+        Due.sentence("A machine may acknowledge a file, if nobody else has a lock on it: that hinders nothing else");
+        House v = sixKnown(4);
+        v.lock(2, 0, 9);
+        v.put(0, 1, "33");
+        v.lock(2, 1, 9);
+        Due.is("a pull", v.pull(1), 1);
+        Due.is("nor an opening", v.open(1, 0) + v.open(1, 1), 4);
+        Due.is("nor an edit", v.move(1, 0, 3) + v.write(1, 1, "444") + v.erase(1, 1), 5);
     }
 
     private static void shares() {

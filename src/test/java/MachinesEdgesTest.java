@@ -613,6 +613,9 @@ public final class MachinesEdgesTest {
         x.put(0, 3, "2");
         Due.is("or pulled", x.pull(1), 1);
         Due.is("it is pinned still", x.pin(1, 3, true), 1);
+        x.delete(0, 3);
+        Due.is("or gone by a pull", x.pull(1), 1);
+        Due.is("it is pinned still, too", x.pin(1, 3, true), 1);
         x.share(0, 1, READ, 1);
         Due.is("and needs no right", x.pin(1, 4, true), 1);
     }

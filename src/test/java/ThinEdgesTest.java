@@ -60,6 +60,13 @@ public final class ThinEdgesTest {
         z.pass(1);
         z.put(0, 7, "44");
         thinned("the last of each", z, 50, "0111");
+        House w = new House();
+        w.put(0, 0, "11");
+        w.put(0, 1, "22");
+        w.pass(30);
+        w.put(0, 1, "33");
+        w.put(0, 0, "44");
+        thinned("the last of each in each span, also if it has later ones", w, 99, "1111");
     }
 
     private static void oldAges() {
@@ -338,6 +345,7 @@ public final class ThinEdgesTest {
         z.lock(2, 0, 9);
         z.share(0, 1, READ, 9);
         Due.is("neither locks nor rights hinder", z.restore(0, 2), 4);
+        Due.is("the lock stays", z.lockOf(0), 2);
         Due.is("nor damage", z.damage(0) + z.restore(0, 1), 7);
     }
 

@@ -456,6 +456,13 @@ public final class UploadEdgesTest {
         Due.is("in its folder", x.folderOf(1, 6), 2);
         Due.is("not changed", x.isChanged(1, 6), false);
         Due.is("nothing at others", x.stateOf(2, 0) + x.stateOf(0, 0), 0);
+        Due.is("nobody has a lock on it", x.lockOf(0), NONE);
+        House u = new House();
+        u.put(0, 6, "11");
+        u.write(1, 6, "33");
+        u.late(1, 3);
+        Due.is("with late events", u.upload(1, 9), 1);
+        Due.is("it is no edit", u.lose(1), 0);
         House w = new House();
         w.put(0, 6, "11");
         w.write(1, 6, "1111");
@@ -587,6 +594,8 @@ public final class UploadEdgesTest {
             Due.is("folder", x.folderOf(1, 4), may ? 0 : 3);
             Due.is("seen", x.seen(1, 4), may ? 1 : 0);
             Due.is("noted", x.noted(1), 0);
+            x.pass(1);
+            Due.is("nor in the next hour", x.noted(1) + x.lose(1), 0);
             Due.is("pieces came all the same", x.count(UPLOADED), 3);
             Due.is("no other file", x.stateOf(1, 0), may ? THERE : ABSENT);
             x.share(3, 1, WRITE, 9);
